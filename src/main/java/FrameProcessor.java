@@ -540,13 +540,13 @@ public final class FrameProcessor {
             return place;
         }
 
-        private void change(Task task, int state) {
+        private int nextChange() {
             changes++;
-            task.enter(state, changes);
+            return changes;
         }
 
         void makeReady(Task task) {
-            change(task, Task.READY);
+            task.enter(Task.READY, nextChange());
         }
 
         void begin(Task task, int frame, int priority) {
@@ -557,17 +557,17 @@ public final class FrameProcessor {
         }
 
         void halt(Task task, int fault) {
-            change(task, Task.STOPPED);
+            task.enter(Task.STOPPED, nextChange());
             task.fault = fault;
         }
 
         void block(Task task, int monitor) {
-            change(task, Task.BLOCKED);
+            task.enter(Task.BLOCKED, nextChange());
             task.address = monitor;
         }
 
         void await(Task task, int condition, int timeout) {
-            change(task, Task.WAITING);
+            task.enter(Task.WAITING, nextChange());
             task.address = condition;
             task.timeout = timeout;
         }
@@ -817,10 +817,21 @@ public final class FrameProcessor {
                 } else if (instruction.code < Instruction.ENTER) {
                     transfer();
                 } else {
-                    synchronize();
+                    coordinate();
                 }
             }
-            finish();
+            if (blocks) {
+                // nothing was written before that is known
+                roster.block(task, monitor);
+                return;
+            }
+            endAtNext();
+            if (memory.hasFailed()) {
+                memory.undo();
+                roster.halt(task, memory.faultHeld());
+                return;
+            }
+            settle();
         }
 
         private void beginWith(Task runner) {
@@ -834,25 +845,13 @@ public final class FrameProcessor {
             waits = false;
         }
 
-        private void finish() {
-            if (blocks) {
-                roster.block(task, monitor);
-                return;
-            }
+        private void endAtNext() {
             if (stack.isOver()) {
                 memory.fail(FAULT_STACK_FULL);
             }
             if (savesNext) {
                 saveNext();
             }
-            if (memory.hasFailed()) {
-                memory.undo();
-                roster.halt(task, memory.faultHeld());
-                return;
-            }
-            stack.saveTo(task);
-            task.frame = frame;
-            settle();
         }
 
         private void saveNext() {
@@ -861,6 +860,8 @@ public final class FrameProcessor {
         }
 
         private void settle() {
+            stack.saveTo(task);
+            task.frame = frame;
             switch (instruction.code) {
                 case Instruction.RETURN:
                     if (ends) {
@@ -1079,7 +1080,7 @@ public final class FrameProcessor {
             }
         }
 
-        private void synchronize() {
+        private void coordinate() {
             switch (instruction.code) {
                 case Instruction.ENTER:
                     enterMonitor(stack.pop());

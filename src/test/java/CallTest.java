@@ -37,6 +37,27 @@ public final class CallTest {
         CHECK.due("word 3: its class", x.peek(callee + 3), 2);
         CHECK.due("the caller's word 2", x.peek(first + 2), own + 4);
         CHECK.due("the stack goes along", bench.top(), 7);
+        for (int k = 0; k < 8; k++) {
+            callOfOtherGlobal(k, k);
+            callOfOtherGlobal(8 + k, k);
+        }
+    }
+
+    /** Procedure e of global frame g calls its next one, of class k. */
+    private static void callOfOtherGlobal(int g, int k) {
+        Bench bench = new Bench().frames(0, 1).frames(k, 1);
+        FrameProcessor x = bench.x;
+        int callee = x.peek(16 + k);
+        x.poke(16, 1800);
+        x.poke(1800, k == 0 ? callee : 0);
+        x.poke(32 + g, Bench.GLOBAL);
+        bench.procedure(g, 0, 25, g + 1);
+        int begin = bench.procedure((g + 1) % 16, k, Bench.HALT);
+        x.start(1 + 2 * g + 32 * g, 0);
+        x.run(1);
+        CHECK.due("the frame is of class " + k, x.process(0, 2), callee);
+        CHECK.due("of global frame " + g, x.peek(callee + 1), g);
+        CHECK.due("at its beginning", x.peek(callee + 2), begin);
     }
 
     private static void callAndReturn() {
@@ -67,6 +88,21 @@ public final class CallTest {
         x.poke(Bench.GLOBAL - 1 - 2, 1 + 2 * 15 + 32 * 7 + 512);
         bench.procedure(0, 0, 26, 2, Bench.HALT);
         x.start(1, 0);
+        bench.clearNotes();
+        x.protect(4, true);
+        x.run(1);
+        CHECK.due("the own word 2 is written first", bench.fault(0), 2);
+        CHECK.due("behind the link, which was read", x.noted(1), 1);
+        CHECK.due("ahead of the heap", x.noted(0), 1);
+        x.protect(4, false);
+        x.map(1, NONE);
+        x.resume(0);
+        bench.clearNotes();
+        x.run(1);
+        CHECK.due("no page for the link", bench.fault(0), 1);
+        CHECK.due("which is read ahead of that write", x.noted(4), 1);
+        x.map(1, 1);
+        x.resume(0);
         x.run(1);
         int callee = x.process(0, 2);
         CHECK.due("word 1: g", x.peek(callee + 1), 7);
@@ -134,6 +170,7 @@ public final class CallTest {
         x.start(1, 0);
         x.run(1);
         CHECK.due("26 with link 0", bench.fault(0), 4);
+        CHECK.due("word 2 was written ahead of that", x.noted(4), 3);
         x.poke(32, 0);
         x.poke(0, Bench.CODE);
         x.resume(0);

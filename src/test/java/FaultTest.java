@@ -199,15 +199,38 @@ public final class FaultTest {
             bench.x.map(4, NONE);
             CHECK.due("an operand has no page, ahead of the pops", faultOf("operand of " + code, bench), 1);
         }
+        int[] operands = {
+            0, 1, 2, 1, 1, 1, 1, 1, 1, 0, 0, 0, 0, 0, 0, 0, 0, 0, 0, 0, 1, 1, 1, 1, 1, 1, 1, 0, 0, 1, 0, 0, 0, 0, 0, 0,
+            0, 0, 0, 0, 0, 0, 0, 0, 0, 0, 0
+        };
+        for (int code = 0; code < operands.length; code++) {
+            Bench bench = lastOnThePage(code, operands[code]);
+            bench.x.run(1);
+            CHECK.due("no byte more is read than there are: " + code, bench.fault(0) == 1 ? 1 : 0, 0);
+            if (code != 27) {
+                bench = lastOnThePage(code, operands[code] - 1);
+                bench.x.run(1);
+                CHECK.due("and none less: " + code, bench.fault(0) == 1 ? 1 : 0, operands[code] > 0 ? 1 : 0);
+            }
+        }
+    }
+
+    /** The code, and so many operands, end page 3; the next page is none. */
+    private static Bench lastOnThePage(int code, int operands) {
+        int first = 511 - Math.max(0, operands);
         Bench bench = new Bench().frames(0, 1);
-        bench.x.poke(Bench.CODE, 510);
-        bench.putByte(510, 0);
-        bench.putByte(511, Bench.HALT);
+        bench.x.poke(Bench.CODE, first - 7);
+        int[] bytes = {0, 1, 200, 1, 200, 1, 200, code};
+        for (int i = 0; i < bytes.length; i++) {
+            bench.putByte(first - 7 + i, bytes[i]);
+        }
         bench.x.map(15, 4);
         bench.x.poke(16, 15 * 256);
+        bench.x.poke(198, 1);
         bench.x.start(1, 0);
         bench.x.map(4, NONE);
-        CHECK.due("no byte more is read than there are", faultOf("no operand", bench), 9);
+        bench.x.run(3);
+        return bench;
     }
 
     private static void jumpsOnlyAtTheEnd() {

@@ -122,6 +122,14 @@ public final class HeapTest {
     }
 
     private static void givingBack() {
+        for (int k = 0; k < 8; k++) {
+            Bench each = new Bench().frames(0, 1);
+            each.procedure(0, 0, Bench.ended(2, 6, 64, 30));
+            each.x.start(1, 0);
+            each.x.poke(1603, k + 65528);
+            each.x.run(2);
+            CHECK.due("free(" + k + ")", each.x.free(k), 1);
+        }
         Bench bench = new Bench().frames(0, 1).frames(2, 1);
         FrameProcessor x = bench.x;
         x.poke(1603, 8 + 2);

@@ -18,6 +18,7 @@ public final class MonitorTest {
         interruptWord();
         ticks();
         ticksTogether();
+        ticksApart();
         CHECK.end();
     }
 
@@ -340,6 +341,35 @@ public final class MonitorTest {
         FrameProcessor z = waiters(0, 1).x;
         CHECK.due("no TIMEOUT", z.tick(100000), 0);
         CHECK.due("no TIMEOUT", z.process(0, 5), 0);
+    }
+
+    private static void ticksApart() {
+        int[] timeouts = {50, 20, 90, 20, 70, 200};
+        for (int step = 1; step <= 250; step += step < 10 ? 1 : 13) {
+            Bench bench = new Bench().frames(0, 6);
+            FrameProcessor x = bench.x;
+            for (int p = 0; p < 6; p++) {
+                bench.procedure(p, 0, 2, 6, 64, 2, 6, 65, 1, timeouts[p], 42, Bench.HALT);
+                x.start(1 + 2 * p, p);
+                x.run(4);
+            }
+            for (int now = step; now <= 250; now += step) {
+                int ended = 0;
+                for (int timeout : timeouts) {
+                    ended += timeout <= now && timeout > now - step ? 1 : 0;
+                }
+                CHECK.due("by steps of " + step + ", at " + now, x.tick(step), ended);
+                for (int p = 0; p < 6; p++) {
+                    CHECK.due("TIMEOUT", x.process(p, 5), Math.max(0, timeouts[p] - now));
+                    CHECK.due("state", x.process(p, 0), timeouts[p] <= now ? 1 : 3);
+                }
+            }
+            x.tick(250);
+            int[] places = {2, 0, 4, 1, 3, 5};
+            for (int p = 0; p < 6; p++) {
+                CHECK.due("place", x.process(p, 7), places[p]);
+            }
+        }
     }
 
     private static void ticksTogether() {

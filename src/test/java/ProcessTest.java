@@ -7,6 +7,7 @@ public final class ProcessTest {
         runs();
         whoRuns();
         yields();
+        stacksApart();
         resumes();
         kills();
         asking();
@@ -79,6 +80,21 @@ public final class ProcessTest {
         x.kill(1);
         x.run(1);
         CHECK.due("nor does it let a lower one run", x.running(), 0);
+    }
+
+    private static void stacksApart() {
+        Bench bench = new Bench().frames(0, 2);
+        FrameProcessor x = bench.x;
+        bench.procedure(0, 0, 1, 1, 1, 2, 1, 3, 45, 9, 45, 9, 45, Bench.HALT);
+        bench.procedure(1, 0, 1, 10, 1, 20, 1, 30, 45, 10, 45, 10, 45, Bench.HALT);
+        x.start(1, 0);
+        x.start(3, 0);
+        CHECK.due("run", x.run(12), 12);
+        CHECK.due("1 and 2 + 3", x.stack(0, 0) * 100 + x.stack(0, 1), 501);
+        CHECK.due("10 and 20 - 30", x.stack(1, 0) * 100 + x.stack(1, 1), 6552610);
+        x.run(500);
+        CHECK.due("1 + 2 + 3", x.stack(0, 0), 6);
+        CHECK.due("10 - (20 - 30)", x.stack(1, 0), 20);
     }
 
     private static void resumes() {
