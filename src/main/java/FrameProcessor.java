@@ -821,7 +821,7 @@ public final class FrameProcessor {
                 }
             }
             if (blocks) {
-                // nothing was written before that is known
+                // it has written nothing, so nothing is to be undone
                 roster.block(task, monitor);
                 return;
             }
