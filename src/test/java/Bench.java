@@ -1,4 +1,4 @@
-/** A FrameProcessor with global frame 0 at 512, its code at 768 and, if asked for, frames from 1024 on. */
+/** A Machine with global frame 0 at 512, its code at 768 and, if asked for, frames from 1024 on. */
 final class Bench {
     static final int GLOBAL = 512;
     static final int CODE = 768;
@@ -7,7 +7,8 @@ final class Bench {
     static final int HALT = 255;
     private static final int[] SIZES = {8, 12, 16, 24, 32, 48, 64, 96};
 
-    final FrameProcessor x = new FrameProcessor();
+    final Machine x = new Machine();
+    private final int[] code = new int[256];
     private int freeByte = 64;
     private int freeWord = HEAP;
 
@@ -25,6 +26,26 @@ final class Bench {
         return bench;
     }
 
+    /** Process 0, of priority 3, with these words on its stack (the last one on top), at these instructions. */
+    static Bench at(int[] words, int... bytes) {
+        int[] all = new int[3 * words.length + bytes.length];
+        for (int i = 0; i < words.length; i++) {
+            all[3 * i] = 2;
+            all[3 * i + 1] = words[i] >> 8;
+            all[3 * i + 2] = words[i] & 255;
+        }
+        System.arraycopy(bytes, 0, all, 3 * words.length, bytes.length);
+        Bench bench = new Bench().frames(0, 8);
+        bench.procedure(0, 0, ended(all));
+        bench.x.start(1, 3);
+        bench.x.run(words.length);
+        return bench;
+    }
+
+    static int[] words(int... words) {
+        return words;
+    }
+
     static int[] ended(int... bytes) {
         int[] all = java.util.Arrays.copyOf(bytes, bytes.length + 1);
         all[bytes.length] = HALT;
@@ -33,11 +54,13 @@ final class Bench {
 
     /** Puts so many more frames of a class in front of its free ones. */
     Bench frames(int k, int count) {
+        int first = x.peek(16 + k);
         for (int i = 0; i < count; i++) {
-            x.poke(freeWord, x.peek(16 + k));
-            x.poke(16 + k, freeWord);
+            x.poke(freeWord, first);
+            first = freeWord;
             freeWord += SIZES[k];
         }
+        x.poke(16 + k, first);
         return this;
     }
 
@@ -45,6 +68,7 @@ final class Bench {
     int procedure(int e, int k, int... bytes) {
         int begin = freeByte;
         x.poke(CODE + e, begin);
+        code[e] = begin;
         putByte(freeByte++, k);
         for (int b : bytes) {
             putByte(freeByte++, b);
@@ -53,9 +77,9 @@ final class Bench {
     }
 
     void putByte(int b, int v) {
-        int address = CODE + b / 2;
-        int word = x.peek(address);
-        x.poke(address, b % 2 == 0 ? (v & 255) << 8 | word & 255 : word & 0xFF00 | v & 255);
+        int word = code[b / 2];
+        code[b / 2] = b % 2 == 0 ? (v & 255) << 8 | word & 255 : word & 0xFF00 | v & 255;
+        x.poke(CODE + b / 2, code[b / 2]);
     }
 
     int fault(int process) {
@@ -75,37 +99,5 @@ final class Bench {
         for (int real = 0; real < 12; real++) {
             x.noted(real);
         }
-    }
-
-    /** All that can be asked without changing anything, as one text. */
-    String picture() {
-        StringBuilder text = new StringBuilder();
-        for (int p = 0; p < 6; p++) {
-            for (int what = 0; what < 8; what++) {
-                text.append(x.process(p, what)).append(' ');
-            }
-            for (int k = 0; k < 9; k++) {
-                text.append(x.stack(p, k)).append(' ');
-            }
-            text.append('\n');
-        }
-        text.append(x.running()).append('\n');
-        return text.append(memoryPicture()).toString();
-    }
-
-    /** The pages, their words and the lists of free frames. */
-    String memoryPicture() {
-        StringBuilder text = new StringBuilder();
-        for (int page = 0; page < 16; page++) {
-            text.append(x.page(page, 0)).append(' ').append(x.page(page, 1)).append(':');
-            for (int i = 0; i < 256 && x.page(page, 0) != FrameProcessor.NONE; i++) {
-                text.append(x.peek(page * 256 + i)).append(' ');
-            }
-            text.append('\n');
-        }
-        for (int k = 0; k < 8; k++) {
-            text.append(x.free(k)).append(' ');
-        }
-        return text.toString();
     }
 }

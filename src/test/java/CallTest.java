@@ -22,7 +22,7 @@ public final class CallTest {
 
     private static void callOwn() {
         Bench bench = new Bench().frames(0, 2).frames(2, 1);
-        FrameProcessor x = bench.x;
+        Machine x = bench.x;
         int first = x.peek(16);
         int callee = x.peek(18);
         int own = bench.procedure(0, 0, 1, 7, 25, 16 + 3, Bench.HALT);
@@ -46,7 +46,7 @@ public final class CallTest {
     /** Procedure e of global frame g calls its next one, of class k. */
     private static void callOfOtherGlobal(int g, int k) {
         Bench bench = new Bench().frames(0, 1).frames(k, 1);
-        FrameProcessor x = bench.x;
+        Machine x = bench.x;
         int callee = x.peek(16 + k);
         x.poke(16, 1800);
         x.poke(1800, k == 0 ? callee : 0);
@@ -62,7 +62,7 @@ public final class CallTest {
 
     private static void callAndReturn() {
         Bench bench = new Bench().frames(0, 2);
-        FrameProcessor x = bench.x;
+        Machine x = bench.x;
         int first = x.peek(16);
         int callee = x.peek(first);
         bench.procedure(0, 0, 1, 7, 25, 3, 9, Bench.HALT);
@@ -78,7 +78,7 @@ public final class CallTest {
 
     private static void callLinked() {
         Bench bench = new Bench().frames(0, 3);
-        FrameProcessor x = bench.x;
+        Machine x = bench.x;
         // global frame 7, at 600 with code at 700; procedure 15 of it
         x.poke(32 + 7, 600);
         x.poke(600, 700);
@@ -119,7 +119,7 @@ public final class CallTest {
 
     private static void callPopped() {
         Bench bench = new Bench().frames(0, 3);
-        FrameProcessor x = bench.x;
+        Machine x = bench.x;
         int first = x.peek(16);
         int callee = x.peek(first);
         int own = bench.procedure(0, 0, 1, 7, 2, 2, 90, 28, Bench.HALT);
@@ -136,7 +136,7 @@ public final class CallTest {
 
     private static void callOfFrame() {
         Bench bench = new Bench().frames(0, 3);
-        FrameProcessor x = bench.x;
+        Machine x = bench.x;
         int own = bench.procedure(0, 0, 2, 6, 64, 28, Bench.HALT);
         int there = bench.procedure(1, 0, 1, 8, Bench.HALT);
         int first = x.peek(16);
@@ -165,7 +165,7 @@ public final class CallTest {
         badLink("the word is 0", 602, 0, 4);
         badLink("no page for the word", 3074, 0, 1);
         Bench bench = new Bench().frames(0, 2);
-        FrameProcessor x = bench.x;
+        Machine x = bench.x;
         bench.procedure(0, 0, 26, 0, Bench.HALT);
         x.start(1, 0);
         x.run(1);
@@ -180,7 +180,7 @@ public final class CallTest {
 
     private static void badLink(String what, int link, int word, int fault) {
         Bench bench = new Bench().frames(0, 2);
-        FrameProcessor x = bench.x;
+        Machine x = bench.x;
         x.poke(600, word);
         int own = bench.procedure(0, 0, 1, 7, 2, link >> 8, link & 255, 28, Bench.HALT);
         x.start(1, 0);
@@ -195,7 +195,7 @@ public final class CallTest {
 
     private static void returnToProcedure() {
         Bench bench = new Bench().frames(0, 1);
-        FrameProcessor x = bench.x;
+        Machine x = bench.x;
         int frame = x.peek(16);
         bench.procedure(0, 0, 1, 3, 27);
         int begin = bench.procedure(1, 0, Bench.HALT);
@@ -211,7 +211,7 @@ public final class CallTest {
 
     private static void returnWithBadLink() {
         Bench bench = new Bench().frames(0, 1);
-        FrameProcessor x = bench.x;
+        Machine x = bench.x;
         int frame = x.peek(16);
         int begin = bench.procedure(0, 0, 27);
         x.start(1, 5);
@@ -228,7 +228,7 @@ public final class CallTest {
 
     private static void lastReturn() {
         Bench bench = new Bench().frames(0, 2);
-        FrameProcessor x = bench.x;
+        Machine x = bench.x;
         int frame = x.peek(16);
         int begin = bench.procedure(0, 0, 1, 3, 27);
         x.start(1, 5);
@@ -249,7 +249,7 @@ public final class CallTest {
 
     private static void fork() {
         Bench bench = new Bench().frames(0, 3);
-        FrameProcessor x = bench.x;
+        Machine x = bench.x;
         int own = bench.procedure(0, 0, 1, 9, 1, 8 + 6, 1, 3, 31, Bench.HALT);
         int begin = bench.procedure(1, 0, Bench.HALT);
         x.start(1, 2);
@@ -289,7 +289,7 @@ public final class CallTest {
 
     private static void forkFault(String what, int link, int word, int others, int fault) {
         Bench bench = new Bench().frames(0, 8);
-        FrameProcessor x = bench.x;
+        Machine x = bench.x;
         x.poke(600, word);
         bench.procedure(0, 0, 1, 2, 2, link >> 8, link & 255, 31, Bench.HALT);
         x.start(1, 7);
@@ -304,7 +304,7 @@ public final class CallTest {
 
     private static void starting() {
         Bench bench = new Bench().frames(0, 8);
-        FrameProcessor x = bench.x;
+        Machine x = bench.x;
         int begin = bench.procedure(0, 0, Bench.HALT);
         for (int i = 0; i < 6; i++) {
             int frame = x.peek(16);
@@ -318,10 +318,9 @@ public final class CallTest {
             CHECK.due("the first one runs", x.running(), 0);
         }
         bench.clearNotes();
-        String before = bench.picture();
+        String before = x.picture();
         CHECK.illegalState("a seventh", () -> x.start(1, 0));
-        CHECK.due("nothing is changed", before.equals(bench.picture()) ? 1 : 0, 1);
-        CHECK.due("nor read", x.noted(0), 0);
+        CHECK.same("nothing is changed, nor read", x.picture(), before);
         x.kill(4);
         x.kill(2);
         x.poke(700, 1 + 65536);
@@ -339,12 +338,12 @@ public final class CallTest {
         startFault("no page for G", 33, 0);
         startFault("no page for C", 65, 0);
         Bench bench = new Bench().frames(0, 1);
-        FrameProcessor x = bench.x;
+        Machine x = bench.x;
         bench.procedure(0, 0, Bench.HALT);
         x.protect(4, true);
-        String before = bench.picture();
+        String before = x.pictureButNotes();
         CHECK.illegalState("a protected frame", () -> x.start(1, 0));
-        CHECK.due("nothing is changed", before.equals(bench.picture()) ? 1 : 0, 1);
+        CHECK.same("nothing is changed", x.pictureButNotes(), before);
         CHECK.due("but noted: the list", x.noted(0), 3);
         CHECK.due("the global frame", x.noted(2), 1);
         CHECK.due("the code", x.noted(3), 1);
@@ -360,8 +359,8 @@ public final class CallTest {
         bench.x.poke(34, 520);
         bench.x.poke(520, 3072);
         bench.x.poke(600, word);
-        String before = bench.picture();
+        String before = bench.x.pictureButNotes();
         CHECK.illegalState("start, " + what, () -> bench.x.start(link, 0));
-        CHECK.due("start, " + what + ": nothing is changed", before.equals(bench.picture()) ? 1 : 0, 1);
+        CHECK.same("start, " + what + ": nothing is changed", bench.x.pictureButNotes(), before);
     }
 }

@@ -16,6 +16,21 @@ final class Check {
         }
     }
 
+    /** Two pictures of a machine; told is the first line in which they are not the same. */
+    void same(String what, String got, String want) {
+        asked++;
+        if (!got.equals(want)) {
+            wrong++;
+            String[] lines = got.split("\n");
+            String[] due = want.split("\n");
+            int i = 0;
+            while (i < lines.length - 1 && i < due.length - 1 && lines[i].equals(due[i])) {
+                i++;
+            }
+            System.out.println(name + ": " + what + ": is\n  " + lines[i] + "\n  due is\n  " + due[i]);
+        }
+    }
+
     /** A call that must throw exactly this exception. */
     void thrown(String what, Class<? extends RuntimeException> want, Runnable call) {
         asked++;
@@ -41,6 +56,30 @@ final class Check {
 
     void illegalArgument(String what, Runnable call) {
         thrown(what, IllegalArgumentException.class, call);
+    }
+
+    /** A call that throws this exception, and leaves all as before. */
+    void refused(String what, Class<? extends RuntimeException> want, Machine x, Runnable call) {
+        String before = x.picture();
+        thrown(what, want, call);
+        same(what + " is refused: all is as before", x.picture(), before);
+    }
+
+    /** The next instruction, one of process 0, FAULTs so: all but notes is as before, and it is STOPPED there. */
+    void faults(String what, Bench bench, int fault) {
+        String before = bench.x.pictureBut(0);
+        due(what + ": counts", bench.x.run(1), 1);
+        due(what + ": FAULT", bench.x.process(0, 6), fault);
+        due(what + ": STOPPED", bench.x.process(0, 0), 4);
+        same(what + ": all is as before", bench.x.pictureBut(0), before);
+    }
+
+    /** The next instruction, one of process 0, is done; then so many are on its stack, and that on top. */
+    void leaves(String what, Bench bench, int depth, int top) {
+        due(what + ": counts", bench.x.run(1), 1);
+        due(what + ": FAULT", bench.x.process(0, 6), 0);
+        due(what + ": how many", bench.x.process(0, 3), depth);
+        due(what, bench.x.stack(0, 0), top);
     }
 
     /** Ends the program, with exit code 1 if an answer was wrong. */

@@ -15,7 +15,7 @@ public final class HeapTest {
 
     private static void counting() {
         Bench bench = new Bench().frames(0, 4).frames(7, 2);
-        FrameProcessor x = bench.x;
+        Machine x = bench.x;
         CHECK.due("free(0)", x.free(0), 4);
         CHECK.due("free(7)", x.free(7), 2);
         CHECK.due("free(3)", x.free(3), 0);
@@ -37,18 +37,25 @@ public final class HeapTest {
         chain(601);
     }
 
+    /** So many frames, each one word on from the one before, that a program gives back: 512 calls make too few. */
     private static void chain(int length) {
-        FrameProcessor x = new FrameProcessor();
-        x.poke(16, 1000);
-        for (int i = 0; i < length; i++) {
-            x.poke(1000 + i, i == length - 1 ? 0 : 1001 + i);
+        Bench bench = new Bench();
+        Machine x = bench.x;
+        x.poke(17, 1024);
+        // local 0 up to local 1: give it back, add one
+        bench.procedure(0, 1, 3, 0, 30, 3, 0, 1, 1, 9, 17, 4, 0, 3, 1, 22, -13, Bench.HALT);
+        x.start(1, 0);
+        x.poke(1028, 2048);
+        x.poke(1029, 2048 + length);
+        while (x.process(0, 0) == 1) {
+            x.run(500);
         }
         CHECK.due("a list of " + length, x.free(0), Math.min(length, 600));
     }
 
     private static void taking() {
         Bench bench = new Bench().frames(0, 1).frames(2, 3);
-        FrameProcessor x = bench.x;
+        Machine x = bench.x;
         int first = x.peek(18);
         int second = x.peek(first);
         x.poke(first + 3, 99);
@@ -66,7 +73,7 @@ public final class HeapTest {
 
     private static void takingFromAbove() {
         Bench bench = new Bench().frames(0, 1).frames(3, 1).frames(5, 1).frames(7, 1);
-        FrameProcessor x = bench.x;
+        Machine x = bench.x;
         int three = x.peek(19);
         int five = x.peek(21);
         int seven = x.peek(23);
@@ -83,7 +90,7 @@ public final class HeapTest {
 
     private static void takingNone() {
         Bench bench = new Bench().frames(0, 3).frames(2, 1);
-        FrameProcessor x = bench.x;
+        Machine x = bench.x;
         bench.procedure(0, 0, Bench.ended(29, 3));
         x.start(1, 0);
         CHECK.due("run", x.run(500), 1);
@@ -100,7 +107,7 @@ public final class HeapTest {
 
     private static void whatTakingReads() {
         Bench bench = new Bench().frames(0, 1);
-        FrameProcessor x = bench.x;
+        Machine x = bench.x;
         x.poke(22, 2048);
         x.poke(2048, 2304);
         bench.procedure(0, 0, Bench.ended(29, 4));
@@ -131,7 +138,7 @@ public final class HeapTest {
             CHECK.due("free(" + k + ")", each.x.free(k), 1);
         }
         Bench bench = new Bench().frames(0, 1).frames(2, 1);
-        FrameProcessor x = bench.x;
+        Machine x = bench.x;
         x.poke(1603, 8 + 2);
         int first = x.peek(18);
         bench.procedure(0, 0, Bench.ended(2, 6, 64, 30));

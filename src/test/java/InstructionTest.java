@@ -140,7 +140,7 @@ public final class InstructionTest {
 
     private static void bytesWrap() {
         // procedure 0 begins at byte 65534: its first instruction is at 65535, with its operand at byte 0
-        FrameProcessor x = new FrameProcessor();
+        Machine x = new Machine();
         x.poke(32, 512);
         x.poke(512, 768);
         x.poke(768, 65534);

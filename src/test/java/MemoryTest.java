@@ -15,13 +15,13 @@ public final class MemoryTest {
     }
 
     private static void newObject() {
-        FrameProcessor x = new FrameProcessor();
+        Machine x = new Machine();
         for (int page = 0; page < 16; page++) {
             CHECK.due("new page " + page, x.page(page, 0), page < 12 ? page : NONE);
             CHECK.due("new protection " + page, x.page(page, 1), 0);
         }
         for (int address = 0; address < 3072; address++) {
-            CHECK.due("new word", x.peek(address), 0);
+            CHECK.due("new word", x.view().peek(address), 0);
         }
         for (int real = 0; real < 12; real++) {
             CHECK.due("new notes", x.noted(real), 0);
@@ -41,7 +41,7 @@ public final class MemoryTest {
     }
 
     private static void mapping() {
-        FrameProcessor x = new FrameProcessor();
+        Machine x = new Machine();
         x.poke(300, 7);
         x.map(15, 1);
         CHECK.due("two pages of one real one", x.peek(15 * 256 + 44), 7);
@@ -69,7 +69,7 @@ public final class MemoryTest {
     }
 
     private static void protecting() {
-        FrameProcessor x = new FrameProcessor();
+        Machine x = new Machine();
         x.protect(15, true);
         CHECK.due("protected without a real page", x.page(15, 1), 1);
         x.protect(0, true);
@@ -85,7 +85,7 @@ public final class MemoryTest {
     private static void noting() {
         // push 3, pop into the word at 1600; push the word at 1900
         Bench bench = Bench.ran(1, 3, 2, 6, 64, 8, 0, 2, 7, 108, 7, 0);
-        FrameProcessor x = bench.x;
+        Machine x = bench.x;
         CHECK.due("stopped by HALT", bench.fault(0), 9);
         CHECK.due("the frame's page", x.noted(4), 3);
         CHECK.due("once", x.noted(4), 0);
@@ -113,7 +113,7 @@ public final class MemoryTest {
     }
 
     private static void pokeAndPeek() {
-        FrameProcessor x = new FrameProcessor();
+        Machine x = new Machine();
         x.poke(0, 65535);
         CHECK.due("highest", x.peek(0), 65535);
         x.poke(0, 65536);
@@ -134,7 +134,7 @@ public final class MemoryTest {
     }
 
     private static void pages() {
-        FrameProcessor x = new FrameProcessor();
+        Machine x = new Machine();
         x.map(14, 3);
         CHECK.due("page(14, 0)", x.page(14, 0), 3);
         CHECK.due("page(15, 0)", x.page(15, 0), NONE);

@@ -33,7 +33,7 @@ public final class MonitorTest {
         return bench;
     }
 
-    private static void state(FrameProcessor x, int p, int... due) {
+    private static void state(Machine x, int p, int... due) {
         for (int i = 0; i < due.length; i += 2) {
             CHECK.due("process(" + p + ", " + due[i] + ")", x.process(p, due[i]), due[i + 1]);
         }
@@ -41,7 +41,7 @@ public final class MonitorTest {
 
     private static void entering() {
         Bench bench = bench(0);
-        FrameProcessor x = bench.x;
+        Machine x = bench.x;
         x.start(1, 3);
         x.run(2);
         CHECK.due("ENTER of 0 makes 1", x.peek(MONITOR), 1);
@@ -80,7 +80,7 @@ public final class MonitorTest {
     }
 
     private static void exitOrder() {
-        FrameProcessor x = bench(0).x;
+        Machine x = bench(0).x;
         x.poke(MONITOR, 1);
         int[] priorities = {2, 5, 5, 1};
         for (int priority : priorities) {
@@ -98,7 +98,7 @@ public final class MonitorTest {
             x.poke(MONITOR, 1);
         }
         // one that was BLOCKED before is behind, if it is BLOCKED anew
-        FrameProcessor y = bench(0).x;
+        Machine y = bench(0).x;
         y.poke(MONITOR, 1);
         y.start(1, 5);
         y.start(1, 5);
@@ -130,7 +130,7 @@ public final class MonitorTest {
 
     private static void exitAtEnd() {
         Bench bench = bench(0);
-        FrameProcessor x = bench.x;
+        Machine x = bench.x;
         x.poke(MONITOR, 1);
         x.start(1, 5);
         x.run(2);
@@ -155,7 +155,7 @@ public final class MonitorTest {
 
     private static void waiting() {
         Bench bench = bench(300);
-        FrameProcessor x = bench.x;
+        Machine x = bench.x;
         x.poke(MONITOR, 1);
         x.poke(CONDITION, 4);
         x.start(1, 2);
@@ -175,7 +175,7 @@ public final class MonitorTest {
         x.kill(2);
         x.run(1);
         CHECK.due("goes on", bench.fault(1), 9);
-        FrameProcessor y = bench(0).x;
+        Machine y = bench(0).x;
         y.start(5, 0);
         y.run(4);
         y.kill(0);
@@ -185,7 +185,7 @@ public final class MonitorTest {
 
     private static void waitFinds() {
         Bench bench = bench(300);
-        FrameProcessor x = bench.x;
+        Machine x = bench.x;
         x.poke(CONDITION, 7);
         x.poke(MONITOR, 9);
         x.start(5, 5);
@@ -208,7 +208,7 @@ public final class MonitorTest {
 
     private static void waitOrder() {
         Bench bench = bench(1);
-        FrameProcessor x = bench.x;
+        Machine x = bench.x;
         bench.procedure(5, 0, 2, 6, 64, 2, 12, 0, 1, 0, 42, Bench.HALT);
         x.poke(MONITOR, 1);
         x.start(1, 2);
@@ -248,7 +248,7 @@ public final class MonitorTest {
     }
 
     private static void notifying() {
-        FrameProcessor x = waiters(0, 1, 4, 4).x;
+        Machine x = waiters(0, 1, 4, 4).x;
         int[] order = {1, 2, 0};
         for (int first : order) {
             int other = x.start(7, 7);
@@ -272,7 +272,7 @@ public final class MonitorTest {
     }
 
     private static void notifyingAll() {
-        FrameProcessor x = waiters(50, 1, 4, 2, 4).x;
+        Machine x = waiters(50, 1, 4, 2, 4).x;
         x.poke(MONITOR, 1);
         x.start(1, 7);
         x.run(2);
@@ -288,7 +288,7 @@ public final class MonitorTest {
     }
 
     private static void interrupts() {
-        FrameProcessor x = waiters(0, 1, 4, 4).x;
+        Machine x = waiters(0, 1, 4, 4).x;
         x.noted(6);
         CHECK.due("the first", x.interrupt(CONDITION), 1);
         CHECK.due("is READY", x.process(1, 0), 1);
@@ -299,13 +299,13 @@ public final class MonitorTest {
         CHECK.due("nothing is noted", x.noted(6), 0);
         CHECK.due("nobody", x.interrupt(CONDITION), NONE);
         CHECK.due("the word is odd", x.peek(CONDITION), 1);
-        FrameProcessor y = waiters(0, 1).x;
+        Machine y = waiters(0, 1).x;
         y.map(6, NONE);
         CHECK.due("one that WAITS, without its page", y.interrupt(CONDITION), 0);
     }
 
     private static void interruptWord() {
-        FrameProcessor x = new FrameProcessor();
+        Machine x = new Machine();
         x.poke(300, 65534);
         CHECK.due("interrupt", x.interrupt(300), NONE);
         CHECK.due("odd now", x.peek(300), 65535);
@@ -323,7 +323,7 @@ public final class MonitorTest {
     }
 
     private static void ticks() {
-        FrameProcessor x = waiters(5, 1).x;
+        Machine x = waiters(5, 1).x;
         CHECK.due("tick(0)", x.tick(0), 0);
         CHECK.due("TIMEOUT", x.process(0, 5), 5);
         CHECK.due("tick(4)", x.tick(4), 0);
@@ -334,11 +334,11 @@ public final class MonitorTest {
         CHECK.due("tick(100000)", x.tick(100000), 0);
         CHECK.illegalArgument("tick(100001)", () -> x.tick(100001));
         CHECK.illegalArgument("tick(-1)", () -> x.tick(-1));
-        FrameProcessor y = waiters(65535, 1).x;
+        Machine y = waiters(65535, 1).x;
         CHECK.due("tick(65534)", y.tick(65534), 0);
         CHECK.due("one is left", y.process(0, 5), 1);
         CHECK.due("tick(2)", y.tick(2), 1);
-        FrameProcessor z = waiters(0, 1).x;
+        Machine z = waiters(0, 1).x;
         CHECK.due("no TIMEOUT", z.tick(100000), 0);
         CHECK.due("no TIMEOUT", z.process(0, 5), 0);
     }
@@ -347,7 +347,7 @@ public final class MonitorTest {
         int[] timeouts = {50, 20, 90, 20, 70, 200};
         for (int step = 1; step <= 250; step += step < 10 ? 1 : 13) {
             Bench bench = new Bench().frames(0, 6);
-            FrameProcessor x = bench.x;
+            Machine x = bench.x;
             for (int p = 0; p < 6; p++) {
                 bench.procedure(p, 0, 2, 6, 64, 2, 6, 65, 1, timeouts[p], 42, Bench.HALT);
                 x.start(1 + 2 * p, p);
@@ -360,8 +360,8 @@ public final class MonitorTest {
                 }
                 CHECK.due("by steps of " + step + ", at " + now, x.tick(step), ended);
                 for (int p = 0; p < 6; p++) {
-                    CHECK.due("TIMEOUT", x.process(p, 5), Math.max(0, timeouts[p] - now));
-                    CHECK.due("state", x.process(p, 0), timeouts[p] <= now ? 1 : 3);
+                    CHECK.due("TIMEOUT", x.view().process(p, 5), Math.max(0, timeouts[p] - now));
+                    CHECK.due("state", x.view().process(p, 0), timeouts[p] <= now ? 1 : 3);
                 }
             }
             x.tick(250);
@@ -386,7 +386,7 @@ public final class MonitorTest {
         for (int p = 0; p < 5; p++) {
             CHECK.due("place of " + p, bench.x.process(p, 7), places[p]);
         }
-        FrameProcessor y = waiters(7, 1).x;
+        Machine y = waiters(7, 1).x;
         y.tick(3);
         y.start(5, 1);
         y.run(4);
@@ -402,7 +402,7 @@ public final class MonitorTest {
         CHECK.due("process 1 ends first, then 0", y.tick(7), 2);
         CHECK.due("the place of 1", y.process(1, 7), 0);
         CHECK.due("the place of 0", y.process(0, 7), 1);
-        FrameProcessor z = waiters(7, 1, 1).x;
+        Machine z = waiters(7, 1, 1).x;
         CHECK.due("six leave one each", z.tick(6), 0);
         CHECK.due("TIMEOUT of 0", z.process(0, 5), 1);
         CHECK.due("TIMEOUT of 1", z.process(1, 5), 1);

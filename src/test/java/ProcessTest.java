@@ -23,7 +23,7 @@ public final class ProcessTest {
     }
 
     private static void runs() {
-        FrameProcessor x = looping().x;
+        Machine x = looping().x;
         x.start(1, 0);
         CHECK.due("run(0)", x.run(0), 0);
         CHECK.due("run(500)", x.run(500), 500);
@@ -40,7 +40,7 @@ public final class ProcessTest {
     }
 
     private static void whoRuns() {
-        FrameProcessor x = looping().x;
+        Machine x = looping().x;
         x.start(1, 3);
         x.start(1, 3);
         CHECK.due("the first of equal ones", x.running(), 0);
@@ -65,7 +65,7 @@ public final class ProcessTest {
     }
 
     private static void yields() {
-        FrameProcessor x = looping().x;
+        Machine x = looping().x;
         x.start(5, 3);
         x.start(5, 3);
         x.start(1, 2);
@@ -84,7 +84,7 @@ public final class ProcessTest {
 
     private static void stacksApart() {
         Bench bench = new Bench().frames(0, 2);
-        FrameProcessor x = bench.x;
+        Machine x = bench.x;
         bench.procedure(0, 0, 1, 1, 1, 2, 1, 3, 45, 9, 45, 9, 45, Bench.HALT);
         bench.procedure(1, 0, 1, 10, 1, 20, 1, 30, 45, 10, 45, 10, 45, Bench.HALT);
         x.start(1, 0);
@@ -99,7 +99,7 @@ public final class ProcessTest {
 
     private static void resumes() {
         Bench bench = looping();
-        FrameProcessor x = bench.x;
+        Machine x = bench.x;
         x.start(3, 3);
         CHECK.illegalState("resume of a READY one", () -> x.resume(0));
         x.run(2);
@@ -121,7 +121,7 @@ public final class ProcessTest {
 
     private static void kills() {
         Bench bench = looping();
-        FrameProcessor x = bench.x;
+        Machine x = bench.x;
         x.start(3, 3);
         x.run(2);
         int frame = x.process(0, 2);
@@ -139,7 +139,7 @@ public final class ProcessTest {
     }
 
     private static void asking() {
-        FrameProcessor x = looping().x;
+        Machine x = looping().x;
         x.start(3, 6);
         x.run(2);
         int[] due = {4, 6, x.process(0, 2), 1, NONE, 0, 9, NONE};
