@@ -16,19 +16,23 @@ final class Check {
         }
     }
 
-    /** Two pictures of a machine; told is the first line in which they are not the same. */
+    /** Two pictures of a machine; told is what stands about the first place where they are not the same. */
     void same(String what, String got, String want) {
         asked++;
         if (!got.equals(want)) {
             wrong++;
-            String[] lines = got.split("\n");
-            String[] due = want.split("\n");
             int i = 0;
-            while (i < lines.length - 1 && i < due.length - 1 && lines[i].equals(due[i])) {
+            while (i < got.length() && i < want.length() && got.charAt(i) == want.charAt(i)) {
                 i++;
             }
-            System.out.println(name + ": " + what + ": is\n  " + lines[i] + "\n  due is\n  " + due[i]);
+            System.out.println(name + ": " + what + ": is\n  " + about(got, i) + "\n  due is\n  " + about(want, i));
         }
+    }
+
+    private static String about(String text, int i) {
+        int from = text.lastIndexOf('\n', i - 1) + 1;
+        String head = text.substring(from, Math.min(i, from + 12));
+        return head + " .. " + text.substring(Math.max(from, i - 20), Math.min(text.length(), i + 20));
     }
 
     /** A call that must throw exactly this exception. */

@@ -75,7 +75,9 @@ public final class InstructionEdgeTest {
 
     /** "or where it jumps": below 0 and above 65535, too. */
     private static void jumpModulo65536() {
-        int[][] cases = {{0, 128, 65408}, {127, 128, 65535}, {128, 128, 0}, {65530, 127, 121}, {65409, 127, 0}, {5, 251, 0}};
+        int[][] cases = {
+            {0, 128, 65408}, {127, 128, 65535}, {128, 128, 0}, {65530, 127, 121}, {65409, 127, 0}, {5, 251, 0}
+        };
         for (int[] each : cases) {
             Bench bench = atByte(each[0], 20, each[1]);
             bench.x.run(1);
@@ -163,6 +165,7 @@ public final class InstructionEdgeTest {
     private static void notesOfAFault() {
         Bench bench = Bench.at(Bench.words(9, 2048), 8, 0);
         bench.clearNotes();
+        bench.x.poke(0, 4711);
         bench.x.protect(4, true);
         CHECK.faults("the last write cannot be done", bench, 2);
         int[] due = {1, 0, 1, 1, 1, 0, 0, 0, 3, 0, 0, 0};

@@ -10,109 +10,110 @@ final class Machine {
     static final int MOST_CALLS = 512;
 
     private final FrameProcessor x = new FrameProcessor();
-    private final List<ToIntFunction<FrameProcessor>> changes = new ArrayList<>();
-    private int calls;
+    private final List<ToIntFunction<FrameProcessor>> calls = new ArrayList<>();
     private FrameProcessor copy;
     private int copyCalls;
 
-    private FrameProcessor asked() {
-        calls++;
-        if (calls > MOST_CALLS) {
-            throw new AssertionError("a test made more than " + MOST_CALLS + " calls");
+    private int call(ToIntFunction<FrameProcessor> call) {
+        calls.add(call);
+        copy = null;
+        if (calls.size() > MOST_CALLS) {
+            throw tooMany();
         }
-        return x;
+        return call.applyAsInt(x);
     }
 
-    private int changed(ToIntFunction<FrameProcessor> change) {
-        changes.add(change);
-        copy = null;
-        return change.applyAsInt(asked());
+    private static AssertionError tooMany() {
+        return new AssertionError("a test made more than " + MOST_CALLS + " calls");
     }
 
     void map(int page, int real) {
-        changed(y -> {
+        call(y -> {
             y.map(page, real);
             return 0;
         });
     }
 
     void protect(int page, boolean is) {
-        changed(y -> {
+        call(y -> {
             y.protect(page, is);
             return 0;
         });
     }
 
     int noted(int real) {
-        return changed(y -> y.noted(real));
+        return call(y -> y.noted(real));
     }
 
     void poke(int address, int v) {
-        changed(y -> {
+        call(y -> {
             y.poke(address, v);
             return 0;
         });
     }
 
     int peek(int address) {
-        return asked().peek(address);
+        return call(y -> y.peek(address));
     }
 
     int start(int link, int priority) {
-        return changed(y -> y.start(link, priority));
+        return call(y -> y.start(link, priority));
     }
 
     int run(int n) {
-        return changed(y -> y.run(n));
+        return call(y -> y.run(n));
     }
 
     void resume(int process) {
-        changed(y -> {
+        call(y -> {
             y.resume(process);
             return 0;
         });
     }
 
     void kill(int process) {
-        changed(y -> {
+        call(y -> {
             y.kill(process);
             return 0;
         });
     }
 
     int interrupt(int condition) {
-        return changed(y -> y.interrupt(condition));
+        return call(y -> y.interrupt(condition));
     }
 
     int tick(int n) {
-        return changed(y -> y.tick(n));
+        return call(y -> y.tick(n));
     }
 
     int running() {
-        return asked().running();
+        return call(y -> y.running());
     }
 
     int process(int process, int what) {
-        return asked().process(process, what);
+        return call(y -> y.process(process, what));
     }
 
     int stack(int process, int k) {
-        return asked().stack(process, k);
+        return call(y -> y.stack(process, k));
     }
 
     int page(int page, int what) {
-        return asked().page(page, what);
+        return call(y -> y.page(page, what));
     }
 
     int free(int k) {
-        return asked().free(k);
+        return call(y -> y.free(k));
     }
 
     /** Another one as this is now, that may be asked once more; what it is asked is no call of this one. */
     FrameProcessor view() {
+        if (calls.size() >= MOST_CALLS) {
+            throw tooMany();
+        }
         if (copy == null || copyCalls >= MOST_CALLS) {
             copy = again();
-            copyCalls = changes.size();
+            copyCalls = calls.size();
         }
         copyCalls++;
         return copy;
@@ -120,9 +121,9 @@ final class Machine {
 
     private FrameProcessor again() {
         FrameProcessor y = new FrameProcessor();
-        for (ToIntFunction<FrameProcessor> change : changes) {
+        for (ToIntFunction<FrameProcessor> call : calls) {
             try {
-                change.applyAsInt(y);
+                call.applyAsInt(y);
             } catch (RuntimeException e) {
                 // what was refused is refused again
                 continue;

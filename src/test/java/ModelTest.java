@@ -196,7 +196,8 @@ public final class ModelTest {
             case 0: case 1: case 2: {
                 int link = any(4) == 0 ? anyOf(WORDS) : any(64) * 2 + 1;
                 int priority = any(5) == 0 ? any(100) - 50 : any(3);
-                same("start(" + link + ", " + priority + ")", () -> x.start(link, priority), () -> y.start(link, priority));
+                same("start(" + link + ", " + priority + ")", () -> x.start(link, priority),
+                    () -> y.start(link, priority));
                 break;
             }
             case 3: case 4: case 5: {
@@ -222,7 +223,8 @@ public final class ModelTest {
                 break;
             case 11: {
                 int to = any(3) == 0 ? any(18) - 3 : a;
-                same("map(" + a + ", " + to + ")", () -> { x.map(a, to); return 0; }, () -> { y.map(a, to); return 0; });
+                same("map(" + a + ", " + to + ")", () -> { x.map(a, to); return 0; },
+                    () -> { y.map(a, to); return 0; });
                 break;
             }
             case 12: {

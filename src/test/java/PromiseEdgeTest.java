@@ -44,6 +44,8 @@ public final class PromiseEdgeTest {
         tickRefused();
         tickAccepted();
         ticksTogether();
+        ticksApart();
+        askingChangesNothing();
         runningNone();
         processOutside();
         processInEachState();
@@ -523,25 +525,62 @@ public final class PromiseEdgeTest {
         CHECK.due("tick(51)", more.tick(51), 1);
     }
 
+    /** Processes 0 to 5 that WAIT so long, those of higher numbers with higher priorities and first. */
+    private static Machine waiting(int... timeouts) {
+        Bench bench = new Bench().frames(0, 8);
+        for (int p = 0; p < timeouts.length; p++) {
+            bench.procedure(p, 0, 2, CONDITION >> 8, 1, 2, CONDITION >> 8, 0, 1, timeouts[p], 42);
+            bench.x.start(1 + 2 * p, p);
+        }
+        bench.x.run(500);
+        CHECK.due("all WAIT", bench.x.running(), NONE);
+        return bench.x;
+    }
+
+    private static void row(String text, Machine x, int what, int... due) {
+        for (int p = 0; p < due.length; p++) {
+            CHECK.due(text + " of " + p, x.process(p, what), due[p]);
+        }
+    }
+
     /** "(of several in one tick those of lower numbers first): how many became so". */
     private static void ticksTogether() {
-        Bench bench = new Bench().frames(0, 8);
-        Machine x = bench.x;
-        int[] timeouts = {3, 2, 3, 0, 2, 3};
-        for (int p = 0; p < 6; p++) {
-            bench.procedure(p, 0, 2, CONDITION >> 8, 1, 2, CONDITION >> 8, 0, 1, timeouts[p], 42);
-        }
-        // higher numbers have higher priorities and wait first
-        for (int p = 0; p < 6; p++) {
-            x.start(1 + 2 * p, p);
-        }
-        x.run(500);
-        CHECK.due("all WAIT", x.running(), NONE);
+        Machine x = waiting(3, 2, 3, 0, 2, 3);
         CHECK.due("tick(4)", x.tick(4), 5);
-        int[] places = {2, 0, 3, NONE, 1, 4};
-        for (int p = 0; p < 6; p++) {
-            CHECK.due("place of " + p, x.process(p, 7), places[p]);
+        row("place", x, 7, 2, 0, 3, NONE, 1, 4);
+        Machine one = waiting(1, 1, 1, 1, 1, 1);
+        CHECK.due("six in one tick", one.tick(1), 6);
+        row("place", one, 7, 0, 1, 2, 3, 4, 5);
+    }
+
+    /** "n ticks: each TIMEOUT above 0 of those WAITING becomes one less": each by each tick, not only by the first. */
+    private static void ticksApart() {
+        Machine six = waiting(6, 5, 4, 3, 2, 1);
+        CHECK.due("six in seven ticks", six.tick(7), 6);
+        row("place", six, 7, 5, 4, 3, 2, 1, 0);
+        Machine some = waiting(9, 1, 5, 4, 0, 3);
+        CHECK.due("three in four ticks", some.tick(4), 3);
+        row("state", some, 0, WAITING, READY, WAITING, READY, WAITING, READY);
+        row("TIMEOUT", some, 5, 5, 0, 1, 0, 0, 0);
+        row("place", some, 7, NONE, 0, NONE, 2, NONE, 1);
+        Machine far = waiting(255, 254, 255, 1, 2, 253);
+        CHECK.due("all in the most ticks", far.tick(100000), 6);
+        row("place", far, 7, 4, 3, 5, 0, 1, 2);
+    }
+
+    /** What is only asked for stays as it is, and is not noted. */
+    private static void askingChangesNothing() {
+        Machine x = inEachState().x;
+        String before = x.picture();
+        for (int i = 0; i < 12; i++) {
+            x.peek(i * 256 + 16);
+            x.page(i, i % 2);
+            x.free(i % 8);
+            x.stack(i % 6, i / 6);
+            x.process(i % 6, i % 8);
+            x.running();
         }
+        CHECK.same("all is as before", x.picture(), before);
     }
 
     /** "The process that RUNS; NONE without." */
@@ -569,7 +608,7 @@ public final class PromiseEdgeTest {
         }
     }
 
-    /** "(4; NONE else), TIMEOUT (5; 0 else), FAULT (6; 0 else), its place (7; NONE else); 1 to 3 are 0 for one FREE". */
+    /** "(4; NONE else), (5; 0 else), (6; 0 else), (7; NONE else)", "1 to 3 are 0 for one that is FREE". */
     private static void processInEachState() {
         Machine x = inEachState().x;
         int[][] due = {

@@ -41,7 +41,7 @@ public final class TermsEdgeTest {
         CHECK.leaves("0 - 65535", Bench.at(Bench.words(0, 65535), 10), 1, 1);
         CHECK.leaves("256 * 256", Bench.at(Bench.words(256, 256), 11), 1, 0);
         CHECK.leaves("65535 * 65535", Bench.at(Bench.words(65535, 65535), 11), 1, 1);
-        CHECK.leaves("46341 * 46341, beyond 31 bits", Bench.at(Bench.words(46341, 46341), 11), 1, 46341 * 46341 & 65535);
+        CHECK.leaves("46341 * 46341, beyond 31 bits", Bench.at(Bench.words(46341, 46341), 11), 1, 4633);
         Bench bench = Bench.at(Bench.words(65535, 1600), 8, 0);
         bench.x.run(1);
         CHECK.due("a word of memory", bench.x.peek(1600), 65535);
@@ -278,6 +278,8 @@ public final class TermsEdgeTest {
             for (int each = 0; each < 8; each++) {
                 bench.x.poke(16 + each, each < k ? 1600 : 0);
             }
+            // the word behind the lists is no list
+            bench.x.poke(24, 1600);
             CHECK.faults("of class " + k + ", where only lower ones have", bench, 3);
         }
     }

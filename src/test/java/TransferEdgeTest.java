@@ -16,6 +16,7 @@ public final class TransferEdgeTest {
         nextByteOfACallModulo65536();
         callWithoutFrames();
         returnToNone();
+        returnToAProcedure();
         returnWithAllAsBefore();
         takeModulo8();
         giveBackFirst();
@@ -23,6 +24,7 @@ public final class TransferEdgeTest {
         forkPriorityModulo8();
         forkWithNoneFree();
         forkOfNoProcedure();
+        forkEndsLast();
         forkWithFullStack();
         enterOfZero();
         enterOfAnother();
@@ -31,8 +33,11 @@ public final class TransferEdgeTest {
         waitWithoutTimeout();
         waitWithTheLongestTimeout();
         waitOfAnOddWord();
+        waitLetsAnotherEnter();
+        notifyOfTheFirst();
         notifyWithNobody();
         notifyAllOfFive();
+        othersWhenAllIsDone();
         yieldAlone();
         CHECK.end();
     }
@@ -119,16 +124,20 @@ public final class TransferEdgeTest {
 
     /** "CALL (first the own frame's word 2 becomes the byte behind the instruction, and not at its end". */
     private static void word2FirstInACall() {
-        // the frame that is taken lies over the caller's word 2: its own word 0 stays there
-        Bench bench = Bench.at(Bench.words(), 25, 0);
-        Machine x = bench.x;
-        x.poke(16, FRAME + 2);
-        x.poke(FRAME + 2, 65);
-        x.run(1);
-        CHECK.due("the frame", x.process(0, 2), FRAME + 2);
-        CHECK.due("its word 0", x.peek(FRAME + 2), FRAME);
-        CHECK.due("its word 2", x.peek(FRAME + 4), 65);
-        CHECK.due("what was its word 0 is the first free one", x.peek(16), 67);
+        int[][] calls = {{25, 0}, {26, 0}, {28}};
+        for (int[] bytes : calls) {
+            // the frame that is taken lies over the caller's word 2: its own word 0 stays there
+            Bench bench = Bench.at(Bench.words(1), bytes);
+            Machine x = bench.x;
+            int behind = bench.next(0) + bytes.length;
+            x.poke(Bench.GLOBAL - 1, 1);
+            x.poke(16, FRAME + 2);
+            x.run(1);
+            CHECK.due(bytes[0] + ": the frame", x.process(0, 2), FRAME + 2);
+            CHECK.due(bytes[0] + ": its word 0", x.peek(FRAME + 2), FRAME);
+            CHECK.due(bytes[0] + ": its word 2", x.peek(FRAME + 4), 65);
+            CHECK.due(bytes[0] + ": what was in it is the first free one", x.peek(16), behind);
+        }
     }
 
     /** The byte behind a CALL at 65535 is 0. */
@@ -181,6 +190,18 @@ public final class TransferEdgeTest {
         called.x.run(1);
         CHECK.due("back in a frame", called.x.process(0, 2), 1600);
         CHECK.due("word 2 stays, too", called.x.peek(FRAME + 2), next);
+    }
+
+    /** "then what was its word 0 is CALLED, from none": though its word 0 is the next free one by then. */
+    private static void returnToAProcedure() {
+        Bench bench = at(Bench.words(5), 27);
+        bench.x.poke(FRAME, 3);
+        int begin = bench.x.peek(Bench.CODE + 1) + 1;
+        CHECK.leaves("27 to a procedure", bench, 1, 5);
+        CHECK.due("the frame that went back is taken", bench.x.process(0, 2), FRAME);
+        CHECK.due("its word 0", bench.x.peek(FRAME), 0);
+        CHECK.due("its word 2", bench.x.peek(FRAME + 2), begin);
+        CHECK.due("the list is as before", bench.x.peek(16), FRAME - 8);
     }
 
     /** A RETURN that FAULTs leaves the frame where it was, and the list too. */
@@ -306,6 +327,24 @@ public final class TransferEdgeTest {
         CHECK.due("it is READY", procedure.x.process(1, 0), 1);
     }
 
+    /** "as a CALL from none": so it is at its end, with the last write, that the own word 2 is written. */
+    private static void forkEndsLast() {
+        Bench guarded = at(Bench.words(1, 3), 31);
+        guarded.clearNotes();
+        guarded.x.poke(16, 2560);
+        guarded.x.protect(4, true);
+        CHECK.faults("31 that cannot end", guarded, 2);
+        CHECK.due("the list was written until then", guarded.x.noted(0), 3);
+        CHECK.due("and the new frame", guarded.x.noted(10), 3);
+        // the new frame lies over the own word 2
+        Bench over = at(Bench.words(1, 3), 31);
+        int behind = over.next(0) + 1;
+        over.x.poke(16, FRAME + 2);
+        CHECK.leaves("31", over, 0, NONE);
+        CHECK.due("the new frame", over.x.process(1, 2), FRAME + 2);
+        CHECK.due("the own word 2 is written last", over.x.peek(FRAME + 2), behind);
+    }
+
     /** An empty stack for the new process, though the one that makes it has a full one. */
     private static void forkWithFullStack() {
         Bench bench = at(Bench.words(1, 2, 3, 4, 5, 6, 0, 3), 31);
@@ -380,7 +419,8 @@ public final class TransferEdgeTest {
             CHECK.due("process 0 runs", x.running(), 0);
             x.run(1);
             for (int k = 0; k < 5; k++) {
-                CHECK.due("behind exit " + i + " process " + order[k], x.process(order[k], 0), k < i ? 0 : k == i ? 1 : 2);
+                int due = k < i ? 0 : k == i ? 1 : 2;
+                CHECK.due("behind exit " + i + " process " + order[k], x.process(order[k], 0), due);
             }
             CHECK.due("at its place", x.process(order[i], 7), 1);
             x.kill(order[i]);
@@ -441,6 +481,52 @@ public final class TransferEdgeTest {
         CHECK.faults("an odd condition in a protected page", odd, 2);
     }
 
+    /** "42: WAIT: EXIT m": of those BLOCKED at m the first one is READY, also by a WAIT that does not wait. */
+    private static void waitLetsAnotherEnter() {
+        for (int word = 0; word < 2; word++) {
+            Bench bench = Bench.at(Bench.words(MONITOR, CONDITION, 0), 42);
+            Machine x = bench.x;
+            bench.procedure(1, 0, 2, MONITOR >> 8, 0, 40);
+            x.poke(MONITOR, 1);
+            x.poke(CONDITION, word);
+            int[] priorities = {4, 7, 7};
+            for (int priority : priorities) {
+                x.start(3, priority);
+                x.run(2);
+            }
+            x.run(1);
+            int[] due = {word == 0 ? 3 : 1, 2, 1, 2};
+            for (int p = 0; p < 4; p++) {
+                CHECK.due("by the word " + word + " process " + p, x.process(p, 0), due[p]);
+            }
+            CHECK.due("its place", x.process(2, 7), word);
+        }
+    }
+
+    /** "43: pop c: NOTIFY: of those WAITING at c the first one (likewise) is READY." */
+    private static void notifyOfTheFirst() {
+        int[] words = {CONDITION, CONDITION + 4096, CONDITION, CONDITION + 61440, CONDITION};
+        Bench bench = Bench.at(words, 43, 43, 43, 43, 43);
+        Machine x = bench.x;
+        bench.procedure(1, 0, 2, MONITOR >> 8, 0, 2, CONDITION >> 8, 0, 1, 9, 42);
+        int[] priorities = {4, 7, 7, 4, 6};
+        for (int priority : priorities) {
+            x.start(3, priority);
+            x.run(4);
+        }
+        int[] order = {2, 3, 5, 1, 4};
+        for (int i = 0; i < 5; i++) {
+            x.run(1);
+            for (int k = 0; k < 5; k++) {
+                int due = k < i ? 0 : k == i ? 1 : 3;
+                CHECK.due("behind notify " + i + " process " + order[k], x.process(order[k], 0), due);
+            }
+            CHECK.due("at its place", x.process(order[i], 7), 1);
+            CHECK.due("without a TIMEOUT", x.process(order[i], 5), 0);
+            x.kill(order[i]);
+        }
+    }
+
     /** "43: pop c: NOTIFY: of those WAITING at c the first one is READY. 44: likewise all of them": or nobody. */
     private static void notifyWithNobody() {
         for (int code = 43; code < 45; code++) {
@@ -478,6 +564,31 @@ public final class TransferEdgeTest {
         for (int i = 0; i < 5; i++) {
             CHECK.due("process " + order[i] + " is READY", x.process(order[i], 0), 1);
             CHECK.due("its place", x.process(order[i], 7), i + 1);
+        }
+    }
+
+    /** "(Others become READY when all is done.)": nobody does if the last write cannot be done. */
+    private static void othersWhenAllIsDone() {
+        int[][] stacks = {{0, 3}, {MONITOR}, {MONITOR, CONDITION, 0}, {CONDITION}, {CONDITION}};
+        int[] codes = {31, 41, 42, 43, 44};
+        for (int i = 0; i < codes.length; i++) {
+            Bench bench = Bench.at(stacks[i], codes[i]);
+            Machine x = bench.x;
+            bench.procedure(1, 0, 2, MONITOR >> 8, 0, 40);
+            bench.procedure(2, 0, 2, MONITOR >> 8, 8, 2, CONDITION >> 8, 0, 1, 9, 42);
+            x.poke(MONITOR, 1);
+            x.start(3, 7);
+            x.start(5, 7);
+            x.run(6);
+            CHECK.due("one is BLOCKED, one WAITS", x.process(1, 0) * 10 + x.process(2, 0), 23);
+            x.poke(16, 2560);
+            x.protect(4, true);
+            CHECK.faults(codes[i] + " that cannot end", bench, 2);
+            x.protect(4, false);
+            x.resume(0);
+            CHECK.leaves(codes[i] + " that can", bench, 0, NONE);
+            int ready = codes[i] == 31 ? 3 : codes[i] < 43 ? 1 : 2;
+            CHECK.due(codes[i] + " makes another READY", x.process(ready, 0), 1);
         }
     }
 
